@@ -10,6 +10,7 @@ public final class StateTest {
         promise10();
         promise10OfTies();
         promise11();
+        twelveDogs();
         Check.end();
     }
 
@@ -34,6 +35,8 @@ public final class StateTest {
         Check.badArgument("about(MIN)", () -> x.about(Integer.MIN_VALUE));
         x.withdraw(3);
         Check.same("withdrawn dogs", x.about(3), 2);
+        x.withdraw(0);
+        Check.same("withdrawn dogs then", x.about(3), 3);
         Check.same("dogs with a run", x.about(2), 4);
         Check.same("the last one has withdrawn", x.about(7), 3);
     }
@@ -103,6 +106,12 @@ public final class StateTest {
         Check.order("without dog 4", x, 3, 0);
         x.withdraw(3);
         Check.order("one owner alone", x, 0);
+        x.run(0, 1);
+        Check.order("none is left", x);
+        Check.same("dog 0 is not in it", x.dog(0, 7), DogTrials.NONE);
+        DogTrials y = Check.trial("T300d005d006d001");
+        y.run(0, 1);
+        Check.order("all of that owner", y, 0, 1);
         Check.order("one owner", Check.trial("T300d030d010d020"), 1, 2, 0);
         Check.order("another owner at the end", Check.trial("T300d001d002d003d599"), 0, 3, 1, 2);
     }
@@ -226,5 +235,32 @@ public final class StateTest {
         Check.same("owner(0) with one that runs anew", x.owner(0), 185);
         Check.badArgument("owner(-1)", () -> x.owner(-1));
         Check.badArgument("owner(6)", () -> x.owner(6));
+    }
+
+    private static void twelveDogs() {
+        DogTrials x = Check.trial("T600d001d102d203d304d405d506d007d108d209d310d411d512");
+        Check.order("twelve dogs", x, 0, 1, 2, 3, 4, 5, 6, 7, 8, 9, 10, 11);
+        for (int i = 0; i < 12; i++) {
+            Check.same("run of dog " + i, x.run(Check.points(11 - i, 0, 0, 0, 0, 0), 1), 89 + i);
+        }
+        Check.standing("twelve dogs", x, 11, 10, 9, 8, 7, 6, 5, 4, 3, 2, 1, 0);
+        Check.order("twelve that have run", x);
+        for (int owner = 0; owner < 6; owner++) {
+            Check.same("owner(" + owner + ")", x.owner(owner), 184 + 2 * owner);
+        }
+        Check.same("place of dog 0", x.dog(0, 6), 12);
+        Check.same("setRank(543210)", x.setRank(543210), 0);
+        Check.same("contenders()", x.contenders(), 1);
+        x.interfere(0, 0);
+        Check.same("mayLose(0, 1)", x.mayLose(0, 1), 0);
+        Check.same("mayLose(0, 11)", x.mayLose(0, 11), 10);
+        Check.same("mayLose(0, 12)", x.mayLose(0, 12), 100);
+        Check.same("bestPlace(0)", x.bestPlace(0), 1);
+        x.save(0);
+        Check.same("a draw that is free", x.setDraw(11, 13), 12);
+        x.withdraw(11);
+        Check.same("withdrawn", x.about(3), 1);
+        Check.order("one is to run anew", x, 0);
+        Check.same("restore(0)", x.restore(0), 12);
     }
 }

@@ -135,6 +135,12 @@ public final class TextTest {
         error("T300d010d001d010", 15);
         error("T300d501x", 8);
         error("T300d501 d502", 8);
+        DogTrials x = Check.trial("T300d501r543210");
+        x.clearText();
+        Check.type(x, "T300d5");
+        Check.same("what was typed before is gone", x.errorPosition(), 6);
+        x.append('0');
+        Check.same("also at the last digit", x.errorPosition(), 7);
     }
 
     private static String tens(int first, int last) {
@@ -150,6 +156,7 @@ public final class TextTest {
         error("T300" + tens(10, 19) + "d020", DogTrials.NONE);
         error("T300" + tens(10, 18) + "d010", 43);
         error("T300" + tens(10, 18) + "d019", DogTrials.NONE);
+        error("T300" + tens(11, 19) + "d010", DogTrials.NONE);
         error("T300" + tens(1, 9) + "d00", 42);
         error("T300" + tens(1, 8) + "d00", 39);
         error("T300" + tens(1, 8) + "d009", DogTrials.NONE);
@@ -196,6 +203,8 @@ public final class TextTest {
         x.withdraw(1);
         x.save(0);
         x.save(1);
+        x.setRank(453210);
+        Check.same("dogs that can win before load", x.contenders(), 2);
         Check.type(x, "T456d312d104");
         Check.same("load()", x.load(), 2);
         Check.samePicture("after load", x, Check.picture(Check.trial("T456d312d104")));
@@ -211,6 +220,8 @@ public final class TextTest {
         Check.same("run of dog 0", x.dog(0, 3), 0);
         Check.same("phase of dog 0", x.dog(0, 5), 6);
         Check.same("what dog 0 lost", x.lost(0, 0), DogTrials.NONE);
+        Check.same("state of dog 1", x.dog(1, 2), 0);
+        Check.same("run of dog 1", x.dog(1, 3), 0);
         Check.badState("undo() after load", x::undo);
         Check.badState("restore(0) after load", () -> x.restore(0));
         Check.badState("restore(1) after load", () -> x.restore(1));
