@@ -222,7 +222,7 @@ public final class ScriptTest {
         script(x, 4, 9999999999999999L, 0);
     }
 
-    /** Plays the rounds with the calls of the face; the trial must be able to undo them all no more. */
+    /** Plays the rounds with the calls of the face, which changes the trial. */
     private static int played(DogTrials x, long seed, int m) {
         int[] worth = {20, 10, 20, 30, 10, 10};
         long state = seed;
