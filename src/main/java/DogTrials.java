@@ -487,7 +487,7 @@ public final class DogTrials {
         }
 
         int ownerThatRanLast() {
-            return hasDog(last) ? owners[last] : NONE;
+            return last >= 0 && last < dogs ? owners[last] : NONE;
         }
 
         int lossOf(int i, int phase) {

@@ -320,36 +320,39 @@ public final class ActionsTest {
         Check.same("the first day", y.about(4), 0);
     }
 
-    private static void promise19OfEachAction() {
+    /** An object with the first so many of eight actions, one of each kind and a second run. */
+    private static DogTrials acted(int actions) {
         DogTrials x = Check.trial("T060d001d102");
-        String[] before = new String[8];
-        before[0] = Check.picture(x);
-        x.enter(2, 3);
-        before[1] = Check.picture(x);
-        x.withdraw(2);
-        before[2] = Check.picture(x);
-        x.run(0, 30);
-        before[3] = Check.picture(x);
-        x.setDraw(0, 1);
-        before[4] = Check.picture(x);
-        x.setRank(543210);
-        before[5] = Check.picture(x);
-        x.nextDay(60);
-        before[6] = Check.picture(x);
-        x.run(0, 30);
-        before[7] = Check.picture(x);
-        x.interfere(1, 0);
-        x.whyNot();
-        x.runsLeft(3);
-        x.bestPlace(0);
-        x.mayLose(1, 2);
-        x.contenders();
-        x.runScript(1, 1001);
-        x.simulate(5, 5);
-        x.save(0);
-        for (int left = 7; left >= 0; left--) {
-            Check.same("undo() of each", x.undo(), left);
-            Check.samePicture("undo() to " + left, x, before[left]);
+        for (int k = 0; k < actions; k++) {
+            switch (k) {
+                case 0: x.enter(2, 3); break;
+                case 1: x.withdraw(2); break;
+                case 2: x.run(0, 30); break;
+                case 3: x.setDraw(0, 1); break;
+                case 4: x.setRank(543210); break;
+                case 5: x.nextDay(60); break;
+                case 6: x.run(0, 30); break;
+                default: x.interfere(1, 0);
+            }
+        }
+        return x;
+    }
+
+    private static void promise19OfEachAction() {
+        for (int kept = 0; kept < 8; kept++) {
+            DogTrials x = acted(8);
+            x.whyNot();
+            x.runsLeft(3);
+            x.bestPlace(0);
+            x.mayLose(1, 2);
+            x.contenders();
+            x.runScript(1, 1001);
+            x.simulate(5, 5);
+            x.save(0);
+            for (int left = 7; left >= kept; left--) {
+                Check.same("undo() of each", x.undo(), left);
+            }
+            Check.samePicture("undo() to " + kept, x, Check.picture(acted(kept)));
         }
         DogTrials y = Check.trial("T060d001");
         y.run(0, 30);

@@ -5,6 +5,9 @@ final class Check {
         int make();
     }
 
+    /** Twelve dogs in the order of their numbers, on a day of 600 minutes. */
+    static final String TWELVE = "T600d001d102d203d304d405d506d007d108d209d310d411d512";
+
     private static int wrong = 0;
 
     private Check() {
@@ -14,6 +17,13 @@ final class Check {
         if (got != want) {
             wrong++;
             System.out.println(what + ": answered " + got + ", due is " + want);
+        }
+    }
+
+    static void sameText(String what, String got, String want) {
+        if (!got.equals(want)) {
+            wrong++;
+            System.out.println(what + ": is " + got + ", due is " + want);
         }
     }
 
@@ -75,7 +85,8 @@ final class Check {
         for (int what = 0; what <= 16; what++) {
             all.append(x.about(what)).append(' ');
         }
-        for (int i = 0; i < x.about(0); i++) {
+        int dogs = x.about(0);
+        for (int i = 0; i < dogs; i++) {
             all.append("| ");
             for (int what = 0; what <= 7; what++) {
                 all.append(x.dog(i, what)).append(' ');
@@ -88,11 +99,7 @@ final class Check {
     }
 
     static void samePicture(String what, DogTrials x, String want) {
-        String got = picture(x);
-        if (!got.equals(want)) {
-            wrong++;
-            System.out.println(what + ": the state is " + got + ", due is " + want);
-        }
+        sameText(what + ": the state", picture(x), want);
     }
 
     static void order(String what, DogTrials x, int... want) {

@@ -656,6 +656,21 @@ final class Model {
         return world.standing().size();
     }
 
+    /** In the form of ModelTest.numbersOf. */
+    int numbersOf(int i) {
+        if (!has(i)) {
+            return INDEX;
+        }
+        int all = dog(i, 0);
+        for (int what = 1; what <= 7; what++) {
+            all = 31 * all + dog(i, what);
+        }
+        for (int phase = 0; phase < 6; phase++) {
+            all = 31 * all + lost(i, phase);
+        }
+        return all;
+    }
+
     /** In the form of Check.picture. */
     String picture() {
         StringBuilder all = new StringBuilder();

@@ -1,7 +1,9 @@
 /** Long runs of calls on the program and on the model, with the same answers. */
 public final class ModelTest {
-    private static final int RUNS = 300;
+    private static final int RUNS = 1500;
     private static final int CALLS = 512;
+    private static final int CALLS_OF_A_PICTURE = 18 + 12 * 14;
+    private static final int CALLS_OF_A_DOG = 14;
     private static final int KINDS = 28;
 
     private static long next;
@@ -16,9 +18,11 @@ public final class ModelTest {
                 x.append(text.charAt(k));
                 m.append(text.charAt(k));
             }
-            for (int call = text.length(); call < CALLS; call++) {
-                play(run, x, m);
+            int calls = text.length();
+            while (calls + CALLS_OF_A_DOG + CALLS_OF_A_PICTURE <= CALLS) {
+                calls += play(run, x, m);
             }
+            Check.samePicture("run " + run + " at the end", x, m.picture());
         }
         Check.end();
     }
@@ -103,12 +107,13 @@ public final class ModelTest {
         return kind < KINDS ? kind : kind < 42 ? 13 : kind < 48 ? 14 : kind < 52 ? 15 : kind < 56 ? 11 : 27;
     }
 
-    private static void play(int run, DogTrials x, Model m) {
+    /** Makes the same call on both; answers how many calls it was. */
+    private static int play(int run, DogTrials x, Model m) {
         int kind = kind();
         if (kind <= 3 && pick(6) != 0) {
             kind = 13;
         }
-        int a = pick(5) == 0 ? near(0, 11) : pick(Math.max(1, x.about(0)));
+        int a = pick(5) == 0 ? near(0, 11) : pick(Math.max(1, m.about(0)));
         int[] b = {near(0, 7), near(0, 5), near(1, 12), near(1, 30), near(60, 600), near(1, 99), near(0, 1), rank(),
             character(), near(0, 16), near(0, 12), near(1, 4), pick(10)};
         long losses = losses();
@@ -124,6 +129,7 @@ public final class ModelTest {
             got = Model.STATE;
         }
         Check.same("run " + run + ", kind " + kind + ", " + a, got, due(m, kind, a, b, losses, script));
+        return kind < KINDS - 1 ? 1 : CALLS_OF_A_DOG;
     }
 
     private static int answer(DogTrials x, int kind, int a, int[] b, long losses, long script) {
@@ -154,7 +160,7 @@ public final class ModelTest {
             case 24: return x.runScript(b[11], script);
             case 25: return x.simulate(losses * 31 + script, b[5]);
             case 26: return b[12] < 5 ? x.save(b[6]) : x.restore(b[6]);
-            default: return Check.picture(x).hashCode();
+            default: return numbersOf(x, a);
         }
     }
 
@@ -186,7 +192,18 @@ public final class ModelTest {
             case 24: return m.runScript(b[11], script);
             case 25: return m.simulate(losses * 31 + script, b[5]);
             case 26: return b[12] < 5 ? m.save(b[6]) : m.restore(b[6]);
-            default: return m.picture().hashCode();
+            default: return m.numbersOf(a);
         }
+    }
+
+    private static int numbersOf(DogTrials x, int i) {
+        int all = x.dog(i, 0);
+        for (int what = 1; what <= 7; what++) {
+            all = 31 * all + x.dog(i, what);
+        }
+        for (int phase = 0; phase < 6; phase++) {
+            all = 31 * all + x.lost(i, phase);
+        }
+        return all;
     }
 }

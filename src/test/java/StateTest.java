@@ -238,7 +238,7 @@ public final class StateTest {
     }
 
     private static void twelveDogs() {
-        DogTrials x = Check.trial("T600d001d102d203d304d405d506d007d108d209d310d411d512");
+        DogTrials x = Check.trial(Check.TWELVE);
         Check.order("twelve dogs", x, 0, 1, 2, 3, 4, 5, 6, 7, 8, 9, 10, 11);
         for (int i = 0; i < 12; i++) {
             Check.same("run of dog " + i, x.run(Check.points(11 - i, 0, 0, 0, 0, 0), 1), 89 + i);
