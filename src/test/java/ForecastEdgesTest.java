@@ -78,12 +78,13 @@ public final class ForecastEdgesTest {
     private static void runsLeftUpToTheSunset() {
         for (int sunset = 60; sunset <= 130; sunset++) {
             for (int minutes = 5; minutes <= 30; minutes++) {
-                DogTrials x = Check.trial("T" + sunset / 100 + sunset / 10 % 10 + sunset % 10 + Check.TWELVE.substring(4));
+                String day = "T" + sunset / 100 + sunset / 10 % 10 + sunset % 10;
+                DogTrials x = Check.trial(day + Check.TWELVE.substring(4));
                 int left = x.runsLeft(minutes);
                 int made = 0;
                 while (x.whyNot() == 0 && x.run(0, minutes) != NONE) {
                     made++;
-                    Check.same("runsLeft(" + minutes + ") then", x.whyNot() == 2 ? 0 : x.runsLeft(minutes), left - made);
+                    Check.same("runsLeft(" + minutes + ") then", x.runsLeft(minutes), left - made);
                 }
                 Check.same("runsLeft(" + minutes + ") of " + sunset, left, made);
             }

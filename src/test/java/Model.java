@@ -206,7 +206,8 @@ final class Model {
         }
         for (int number = 0; number < 1000; number++) {
             String digits = String.valueOf(1000 + number).substring(1);
-            if (isTrial(start + digits) || isTrial(start + digits.substring(1)) || isTrial(start + digits.substring(2))) {
+            if (isTrial(start + digits) || isTrial(start + digits.substring(1))
+                    || isTrial(start + digits.substring(2))) {
                 return true;
             }
         }

@@ -5,9 +5,9 @@ public final class ScriptEdgesTest {
     private static final int NONE = DogTrials.NONE;
     private static final long FACTOR = 6364136223846793005L;
     private static final long TERM = 1442695040888963407L;
-    private static final int[] COMMANDS = {0, 999, 1001, 1930, 1000, 1031, 2000, 2001, 2011, 2012, 2100, 3000, 3501, 3011,
-        3600, 4060, 4600, 4059, 4601, 5000, 5001, 5010, 5011, 5100, 6100, 6201, 6011, 6311, 7000, 7001, 7060, 7090, 8000,
-        8001, 8003, 8012, 8100, 9000, 9001, 9002, 9003, 9010, 9100};
+    private static final int[] COMMANDS = {0, 999, 1001, 1930, 1000, 1031, 2000, 2001, 2011, 2012, 2100, 3000, 3501,
+        3011, 3600, 4060, 4600, 4059, 4601, 5000, 5001, 5010, 5011, 5100, 6100, 6201, 6011, 6311, 7000, 7001, 7060,
+        7090, 8000, 8001, 8003, 8012, 8100, 9000, 9001, 9002, 9003, 9010, 9100};
 
     public static void main(String[] args) {
         numberOfCommands();
